@@ -1,76 +1,79 @@
-/** Promise 4. */
+/** Promise 4; what each cast does stands in TermsOfCastsTest. */
 public final class CastTest {
-    private static final Due DUE = new Due();
+    private static final Calls CALLS = new Calls();
 
-    private static void goes(int from, int to, long bits, long want) {
-        KindNumbers numbers = new KindNumbers();
-        String call = "cast(" + from + ", " + to + ", " + bits + ")";
-        DUE.is(call, numbers.cast(from, to, bits), want);
-        DUE.is("failed() after " + call, numbers.failed(), 0);
-    }
-
-    private static void fails(int from, int to, long bits) {
-        KindNumbers numbers = new KindNumbers();
-        String call = "cast(" + from + ", " + to + ", " + bits + ")";
-        DUE.is(call, numbers.cast(from, to, bits), 0);
-        DUE.is("failed() after " + call, numbers.failed(), 1);
-    }
-
-    private static void ordinary() {
-        goes(4, 1, 300, 44);
-        goes(5, 4, 4294967297L, 1);
-        goes(1, 3, -1, 65535);
-        goes(3, 1, 255, -1);
-        goes(4, 7, 3, Bits.of(3.0));
-        goes(7, 4, Bits.of(-2.9), -2);
-        goes(7, 1, Bits.of(1e10), -1);
-        goes(7, 3, Bits.of(-1e10), 0);
-        goes(6, 2, Bits.of(40000f), -25536);
-        goes(7, 5, Bits.of(Double.NEGATIVE_INFINITY), Long.MIN_VALUE);
-        goes(7, 6, Bits.of(-0.0), 0x80000000L);
-        goes(7, 6, Bits.of(-1e-60), 0x80000000L);
-        goes(7, 6, Bits.of(1e60), 0x7F800000L);
-        goes(0, 0, 0, 0);
-        goes(0, 0, 1, 1);
-    }
-
-    private static void everyEdge() {
+    private static void bitsOfTheCast() {
+        CALLS.sentence("The bits of the cast");
         for (int from = 1; from <= 7; from++) {
             for (int to = 1; to <= 7; to++) {
                 for (long bits : Bits.edges(from)) {
-                    goes(from, to, bits, Plain.cast(from, to, bits));
+                    CALLS.cast(from, to, bits, Plain.cast(from, to, bits));
                 }
             }
         }
     }
 
-    private static void wrongCalls() {
-        for (int kind = 1; kind <= 7; kind++) {
-            fails(0, kind, 0);
-            fails(0, kind, 1);
-            fails(kind, 0, 0);
-            fails(kind, 0, 1);
+    private static void toTheSameKind() {
+        CALLS.sentence("The bits of the cast: a kind to itself keeps them, booleans too");
+        for (int kind = 0; kind <= 7; kind++) {
+            for (long bits : Bits.edges(kind)) {
+                CALLS.cast(kind, kind, bits, bits);
+            }
         }
+    }
+
+    private static void bitsThatAreNone() {
+        CALLS.sentence("0, and failed() is 1, if bits are none of from");
         for (int from = 0; from <= 7; from++) {
             for (long bits : Bits.none(from)) {
                 for (int to = 0; to <= 7; to++) {
-                    fails(from, to, bits);
+                    CALLS.castFails(from, to, bits);
                 }
             }
         }
+    }
+
+    private static void bitsNeedNotBeOfTo() {
+        CALLS.sentence("if bits are none of from: of the other kind they may be none");
+        CALLS.cast(4, 1, 128, -128);
+        CALLS.cast(1, 3, -1, 65535);
+        CALLS.cast(5, 6, -1, 0xBF800000L);
+        CALLS.cast(5, 7, 0x7FF8000000000000L, Bits.of(0x1.ffep62));
+        CALLS.castFails(1, 4, 128);
+        CALLS.castFails(3, 1, -1);
+        CALLS.castFails(6, 5, -1);
+    }
+
+    private static void aBooleanAndANumber() {
+        CALLS.sentence("0, and failed() is 1, if the kinds are not both numbers or the same: a boolean");
+        for (int kind = 1; kind <= 7; kind++) {
+            for (long bits = 0; bits <= 1; bits++) {
+                CALLS.castFails(0, kind, bits);
+                CALLS.castFails(kind, 0, bits);
+            }
+        }
+    }
+
+    private static void noSuchKind() {
+        CALLS.sentence("0, and failed() is 1, if the kinds are not both numbers or the same: no kind");
         for (int no : Bits.noKinds()) {
-            fails(no, no, 0);
-            for (int kind = 0; kind <= 7; kind++) {
-                fails(no, kind, 1);
-                fails(kind, no, 1);
+            for (long bits = 0; bits <= 1; bits++) {
+                CALLS.castFails(no, no, bits);
+                for (int kind = 0; kind <= 7; kind++) {
+                    CALLS.castFails(no, kind, bits);
+                    CALLS.castFails(kind, no, bits);
+                }
             }
         }
     }
 
     public static void main(String[] args) {
-        ordinary();
-        everyEdge();
-        wrongCalls();
-        DUE.end();
+        bitsOfTheCast();
+        toTheSameKind();
+        bitsThatAreNone();
+        bitsNeedNotBeOfTo();
+        aBooleanAndANumber();
+        noSuchKind();
+        CALLS.end();
     }
 }

@@ -1,14 +1,27 @@
-/** Counts and prints the answers that are not the ones that are due. */
+/** Counts and prints the answers that are not the ones that are due, each under the sentence that asks for it. */
 final class Due {
+    private String sentence = "";
+    private boolean told;
     private int wrong;
 
+    /** What follows is asked for by these words of the document. */
+    void sentence(String words) {
+        sentence = words;
+        told = false;
+    }
+
     void is(String call, long got, long want) {
-        if (got != want) {
-            wrong++;
-            // A broken class can fail a sweep a million times over; the first rows tell enough.
-            if (wrong <= 50) {
-                System.out.println(call + " answered " + got + ", due is " + want);
-            }
+        if (got == want) {
+            return;
+        }
+        wrong++;
+        // A broken class can fail a sweep a million times over; the first rows of a sentence tell enough.
+        if (!told) {
+            System.out.println("does not hold: " + sentence);
+            told = true;
+        }
+        if (wrong <= 50) {
+            System.out.println("  " + call + " answered " + got + ", due is " + want);
         }
     }
 

@@ -19,6 +19,7 @@ public final class FaceTest {
 
     public static void main(String[] args) {
         Due due = new Due();
+        due.sentence("The public face");
         due.is("the modifiers", KindNumbers.class.getModifiers(), Modifier.PUBLIC | Modifier.FINAL);
         Set<String> seen = new TreeSet<>();
         for (Method method : KindNumbers.class.getDeclaredMethods()) {

@@ -1,27 +1,45 @@
-/** Promise 2. */
+/** Promise 2; the limits of each kind stand one by one in TermsOfBitsTest. */
 public final class HasTest {
-    public static void main(String[] args) {
-        Due due = new Due();
+    private static final Calls CALLS = new Calls();
+
+    private static void bitsOfTheKind() {
+        CALLS.sentence("Whether these are bits of a value of the kind");
         for (int kind = 0; kind <= 7; kind++) {
             for (long bits : Bits.edges(kind)) {
-                due.is("has(" + kind + ", " + bits + ")", new KindNumbers().has(kind, bits), true);
+                CALLS.has(kind, bits, true);
             }
             for (long bits : Bits.none(kind)) {
-                due.is("has(" + kind + ", " + bits + ")", new KindNumbers().has(kind, bits), false);
+                CALLS.has(kind, bits, false);
             }
         }
+    }
+
+    private static void everySmallNumber() {
+        CALLS.sentence("Whether these are bits of a value of the kind: all numbers around the lesser kinds");
+        for (long bits = -70000; bits <= 70000; bits++) {
+            CALLS.has(0, bits, bits == 0 || bits == 1);
+            CALLS.has(1, bits, bits >= -128 && bits <= 127);
+            CALLS.has(2, bits, bits >= -32768 && bits <= 32767);
+            CALLS.has(3, bits, bits >= 0 && bits <= 65535);
+            CALLS.has(4, bits, true);
+            CALLS.has(5, bits, true);
+            CALLS.has(6, bits, bits >= 0);
+        }
+    }
+
+    private static void noSuchKind() {
+        CALLS.sentence("false if there is no such kind");
         for (int kind : Bits.noKinds()) {
             for (long bits = -1; bits <= 1; bits++) {
-                due.is("has(" + kind + ", " + bits + ")", new KindNumbers().has(kind, bits), false);
+                CALLS.has(kind, bits, false);
             }
         }
-        for (long bits = -70000; bits <= 70000; bits++) {
-            KindNumbers numbers = new KindNumbers();
-            due.is("has(1, " + bits + ")", numbers.has(1, bits), bits >= -128 && bits <= 127);
-            due.is("has(2, " + bits + ")", numbers.has(2, bits), bits >= -32768 && bits <= 32767);
-            due.is("has(3, " + bits + ")", numbers.has(3, bits), bits >= 0 && bits <= 65535);
-            due.is("has(5, " + bits + ")", numbers.has(5, bits), true);
-        }
-        due.end();
+    }
+
+    public static void main(String[] args) {
+        bitsOfTheKind();
+        everySmallNumber();
+        noSuchKind();
+        CALLS.end();
     }
 }

@@ -6,6 +6,29 @@ final class Plain {
     private Plain() {
     }
 
+    static boolean has(int kind, long bits) {
+        switch (kind) {
+            case 0:
+                return bits == 0 || bits == 1;
+            case 1:
+                return bits >= Byte.MIN_VALUE && bits <= Byte.MAX_VALUE;
+            case 2:
+                return bits >= Short.MIN_VALUE && bits <= Short.MAX_VALUE;
+            case 3:
+                return bits >= Character.MIN_VALUE && bits <= Character.MAX_VALUE;
+            case 4:
+                return bits >= Integer.MIN_VALUE && bits <= Integer.MAX_VALUE;
+            case 5:
+                return true;
+            case 6:
+                return bits >= 0 && bits < 1L << 32 && !Float.isNaN(Bits.asFloat(bits));
+            case 7:
+                return !Double.isNaN(Bits.asDouble(bits));
+            default:
+                return false;
+        }
+    }
+
     static long cast(int from, int to, long bits) {
         switch (from) {
             case 0:
@@ -118,6 +141,14 @@ final class Plain {
 
     private static double workDouble(int what, double x, double y) {
         return what == 1 ? x + y : what == 2 ? x - y : what == 3 ? x * y : what == 4 ? x / y : x % y;
+    }
+
+    static long shift(int what, int kind, long a, long n) {
+        if (kind == 5) {
+            return what == 6 ? a << n : what == 7 ? a >> n : a >>> n;
+        }
+        int x = (int) a;
+        return what == 6 ? x << n : what == 7 ? x >> n : x >>> n;
     }
 
     static int compare(int kind, long a, int other, long b) {

@@ -1,6 +1,6 @@
 /** Promises 4, 5, 7 and 8 over many bits that no one chose, against what Java itself answers. */
 public final class SweepTest {
-    private static final Due DUE = new Due();
+    private static final Calls CALLS = new Calls();
     private static final int ROUNDS = 400_000;
 
     private static long state = 20261116;
@@ -37,30 +37,25 @@ public final class SweepTest {
         return Double.isNaN(Bits.asDouble(bits)) ? bits & 0x800FFFFFFFFFFFFFL : bits;
     }
 
-    private static void round() {
+    private static void holdAgainstJava() {
         int kind = 1 + (int) Long.remainderUnsigned(next(), 7);
         int other = 1 + (int) Long.remainderUnsigned(next(), 7);
         long a = bitsOf(kind);
         long b = bitsOf(other);
-        String on = kind + ", " + a + ", " + other + ", " + b + ")";
-        KindNumbers numbers = new KindNumbers();
-        DUE.is("cast(" + kind + ", " + other + ", " + a + ")", numbers.cast(kind, other, a), Plain.cast(kind, other, a));
+        CALLS.cast(kind, other, a, Plain.cast(kind, other, a));
         for (int what = 1; what <= 5; what++) {
-            long want = Plain.work(what, kind, a, other, b);
-            boolean none = want == Plain.NO_RESULT;
-            DUE.is("work(" + what + ", " + on, numbers.work(what, kind, a, other, b), none ? 0 : want);
-            DUE.is("failed() after work(" + what + ", " + on, numbers.failed(), none ? 8 : 0);
+            CALLS.workAsPlain(what, kind, a, other, b);
         }
-        DUE.is("compare(" + on, numbers.compare(kind, a, other, b), Plain.compare(kind, a, other, b));
+        CALLS.compare(kind, a, other, b, Plain.compare(kind, a, other, b));
         long c = bitsOf(kind);
-        int order = Plain.order(kind, a, c);
-        DUE.is("order(" + kind + ", " + a + ", " + c + ")", numbers.order(kind, a, c), order);
+        CALLS.order(kind, a, c, Plain.order(kind, a, c));
     }
 
     public static void main(String[] args) {
+        CALLS.sentence("A CAST is as the language does it; work, comparisons and order too");
         for (int i = 0; i < ROUNDS; i++) {
-            round();
+            holdAgainstJava();
         }
-        DUE.end();
+        CALLS.end();
     }
 }

@@ -1,35 +1,52 @@
 /** Promise 3. */
 public final class WidensTest {
-    /** A row for each kind from which, a place for each kind to which. */
+    private static final Calls CALLS = new Calls();
+
+    /** A row for each kind from which, a place for each kind to which: a dot where it does not widen. */
     private static final String[] TABLE = {
-        "1.......",
-        ".11.1111",
-        "..1.1111",
-        "...11111",
-        "....1111",
-        ".....111",
-        "......11",
-        ".......1",
+        "=.......",
+        ".=w.wwww",
+        "..=.wwww",
+        "...=wwww",
+        "....=www",
+        ".....=ww",
+        "......=w",
+        ".......=",
     };
 
-    public static void main(String[] args) {
-        Due due = new Due();
-        int pairs = 0;
+    private static void theOtherOne() {
+        CALLS.sentence("Whether a kind is the other one");
+        for (int kind = 0; kind <= 7; kind++) {
+            CALLS.widens(kind, kind, true);
+        }
+    }
+
+    private static void widensToIt() {
+        CALLS.sentence("or widens to it");
         for (int from = 0; from <= 7; from++) {
             for (int to = 0; to <= 7; to++) {
-                boolean got = new KindNumbers().widens(from, to);
-                due.is("widens(" + from + ", " + to + ")", got, TABLE[from].charAt(to) == '1');
-                pairs += got && from != to ? 1 : 0;
+                CALLS.widens(from, to, TABLE[from].charAt(to) != '.');
             }
         }
-        due.is("the pairs that widen", pairs, 19);
+    }
+
+    private static void noSuchKind() {
+        CALLS.sentence("false if there is no such kind");
         for (int no : Bits.noKinds()) {
             for (int kind = 0; kind <= 7; kind++) {
-                due.is("widens(" + no + ", " + kind + ")", new KindNumbers().widens(no, kind), false);
-                due.is("widens(" + kind + ", " + no + ")", new KindNumbers().widens(kind, no), false);
+                CALLS.widens(no, kind, false);
+                CALLS.widens(kind, no, false);
             }
-            due.is("widens(" + no + ", " + no + ")", new KindNumbers().widens(no, no), false);
+            for (int other : Bits.noKinds()) {
+                CALLS.widens(no, other, false);
+            }
         }
-        due.end();
+    }
+
+    public static void main(String[] args) {
+        theOtherOne();
+        widensToIt();
+        noSuchKind();
+        CALLS.end();
     }
 }

@@ -1,104 +1,120 @@
-/** Promise 5. */
+/** Promise 5; what + - * / % do stands in TermsOfWorkTest. */
 public final class WorkTest {
-    private static final Due DUE = new Due();
+    private static final Calls CALLS = new Calls();
 
-    private static void answers(int what, int kind, long a, int other, long b, long want, int why) {
-        KindNumbers numbers = new KindNumbers();
-        long got = numbers.work(what, kind, a, other, b);
-        int failed = numbers.failed();
-        if (got != want || failed != why) {
-            String call = "work(" + what + ", " + kind + ", " + a + ", " + other + ", " + b + ")";
-            DUE.is(call, got, want);
-            DUE.is("failed() after " + call, failed, why);
+    private static void fiveWhats() {
+        CALLS.sentence("What 1 +, 2 -, 3 *, 4 /, 5 %");
+        long[] sixWithFour = {10, 2, 24, 1, 2};
+        double[] halves = {8, 5, 9.75, 6.5 / 1.5, 0.5};
+        for (int what = 1; what <= 5; what++) {
+            CALLS.work(what, 4, 6, 4, 4, sixWithFour[what - 1]);
+            CALLS.work(what, 5, 6, 5, 4, sixWithFour[what - 1]);
+            CALLS.work(what, 7, Bits.of(6.5), 7, Bits.of(1.5), Bits.of(halves[what - 1]));
+            CALLS.work(what, 6, Bits.of(6.5f), 6, Bits.of(1.5f), Bits.of((float) halves[what - 1]));
         }
     }
 
-    private static void ordinary() {
-        answers(1, 1, 127, 1, 1, 128, 0);
-        answers(2, 3, 0, 3, 1, -1, 0);
-        answers(3, 4, 65536, 4, 65536, 0, 0);
-        answers(3, 4, 65536, 5, 65536, 4294967296L, 0);
-        answers(4, 4, -7, 4, 2, -3, 0);
-        answers(5, 4, -7, 4, 2, -1, 0);
-        answers(5, 4, 7, 4, -2, 1, 0);
-        answers(4, 5, Long.MIN_VALUE, 4, -1, Long.MIN_VALUE, 0);
-        answers(5, 5, Long.MIN_VALUE, 4, -1, 0, 0);
-        answers(1, 6, Bits.of(0.1f), 6, Bits.of(0.2f), Bits.of(0.1f + 0.2f), 0);
-        answers(1, 7, Bits.of(0.1), 7, Bits.of(0.2), Bits.of(0.1 + 0.2), 0);
-        answers(1, 6, Bits.of(0.1f), 7, Bits.of(0.2), Bits.of(0.1f + 0.2), 0);
-        answers(5, 7, Bits.of(-5.5), 4, 2, Bits.of(-1.5), 0);
-        answers(5, 7, Bits.of(-4.0), 4, 2, Bits.of(-0.0), 0);
-        answers(5, 7, Bits.of(1e300), 7, 1, Bits.of(1e300 % Double.MIN_VALUE), 0);
-        answers(5, 6, Bits.of(3f), 6, Bits.of(Float.NEGATIVE_INFINITY), Bits.of(3f), 0);
-        answers(4, 7, Bits.of(-1.0), 4, 0, Bits.of(Double.NEGATIVE_INFINITY), 0);
-    }
-
-    private static void noResult() {
-        long infinity = Bits.of(Double.POSITIVE_INFINITY);
-        long minusInfinity = Bits.of(Double.NEGATIVE_INFINITY);
-        answers(4, 1, 5, 2, 0, 0, 8);
-        answers(5, 5, 5, 3, 0, 0, 8);
-        answers(1, 7, infinity, 7, minusInfinity, 0, 8);
-        answers(1, 7, infinity, 7, infinity, infinity, 0);
-        answers(2, 7, infinity, 7, infinity, 0, 8);
-        answers(2, 7, infinity, 7, minusInfinity, infinity, 0);
-        answers(3, 7, infinity, 4, 0, 0, 8);
-        answers(3, 1, 0, 7, minusInfinity, 0, 8);
-        answers(4, 6, 0, 6, 0x80000000L, 0, 8);
-        answers(4, 7, infinity, 7, minusInfinity, 0, 8);
-        answers(5, 7, infinity, 4, 3, 0, 8);
-        answers(5, 6, Bits.of(3f), 4, 0, 0, 8);
-    }
-
-    private static void everyEdge() {
+    private static void bitsOfTheResult() {
+        CALLS.sentence("the bits of the result, whose kind is that in which is worked");
         for (int kind = 1; kind <= 7; kind++) {
             for (int other = 1; other <= 7; other++) {
-                everyEdgeOf(kind, other);
+                everyEdge(kind, other);
             }
         }
     }
 
-    private static void everyEdgeOf(int kind, int other) {
+    private static void everyEdge(int kind, int other) {
         for (long a : Bits.edges(kind)) {
             for (long b : Bits.edges(other)) {
                 for (int what = 1; what <= 5; what++) {
-                    long want = Plain.work(what, kind, a, other, b);
-                    boolean none = want == Plain.NO_RESULT;
-                    answers(what, kind, a, other, b, none ? 0 : want, none ? 8 : 0);
+                    CALLS.workAsPlain(what, kind, a, other, b);
                 }
             }
         }
     }
 
-    private static void wrongCalls() {
-        for (int what : new int[] {Integer.MIN_VALUE, -1, 0, 6, 7, 8, Integer.MAX_VALUE}) {
-            answers(what, 4, 6, 4, 3, 0, 1);
-            answers(what, 7, Bits.of(1.0), 4, 0, 0, 1);
-        }
-        for (int what = 1; what <= 5; what++) {
-            answers(what, 0, 1, 0, 1, 0, 1);
+    private static void refused(int what, int kind, long a, int other, long b) {
+        CALLS.workFails(what, kind, a, other, b, Calls.WRONG_CALL);
+    }
+
+    private static void anotherWhat() {
+        CALLS.sentence("0, and failed() 1: another what");
+        for (int what : new int[] {Integer.MIN_VALUE, -1, 0, 6, 7, 8, 257, Integer.MAX_VALUE}) {
             for (int kind = 1; kind <= 7; kind++) {
-                answers(what, 0, 1, kind, 1, 0, 1);
-                answers(what, kind, 1, 0, 1, 0, 1);
-                for (int no : Bits.noKinds()) {
-                    answers(what, no, 1, kind, 1, 0, 1);
-                    answers(what, kind, 1, no, 1, 0, 1);
-                }
+                refused(what, kind, 1, 4, 3);
+                refused(what, kind, 1, kind, 1);
+            }
+        }
+    }
+
+    private static void bitsThatAreNone() {
+        CALLS.sentence("0, and failed() 1: bits that are none");
+        for (int what = 1; what <= 5; what++) {
+            for (int kind = 1; kind <= 7; kind++) {
                 for (long bits : Bits.none(kind)) {
-                    answers(what, kind, bits, 4, 1, 0, 1);
-                    answers(what, 4, 1, kind, bits, 0, 1);
-                    // What is wrong with the call comes before a division by 0.
-                    answers(what, kind, bits, 4, 0, 0, 1);
+                    for (int other = 1; other <= 7; other++) {
+                        refused(what, kind, bits, other, 1);
+                        refused(what, other, 1, kind, bits);
+                    }
+                    refused(what, kind, bits, kind, bits);
                 }
             }
+        }
+    }
+
+    private static void kindsThatAreNoNumber() {
+        CALLS.sentence("0, and failed() 1: a kind that is no number");
+        for (int what = 1; what <= 5; what++) {
+            refused(what, 0, 1, 0, 1);
+            for (int kind = 1; kind <= 7; kind++) {
+                refused(what, 0, 1, kind, 1);
+                refused(what, kind, 1, 0, 1);
+            }
+            for (int no : Bits.noKinds()) {
+                refused(what, no, 1, no, 1);
+                for (int kind = 0; kind <= 7; kind++) {
+                    refused(what, no, 1, kind, 1);
+                    refused(what, kind, 1, no, 1);
+                }
+            }
+        }
+    }
+
+    private static void eightAsSaid() {
+        CALLS.sentence("0, and failed() 8 as said");
+        long infinite = Bits.of(Double.POSITIVE_INFINITY);
+        CALLS.workFails(4, 1, 5, 2, 0, Calls.NO_RESULT);
+        CALLS.workFails(5, 5, 5, 3, 0, Calls.NO_RESULT);
+        CALLS.workFails(1, 7, infinite, 7, infinite | Long.MIN_VALUE, Calls.NO_RESULT);
+        CALLS.workFails(2, 7, infinite, 7, infinite, Calls.NO_RESULT);
+        CALLS.workFails(3, 7, infinite, 4, 0, Calls.NO_RESULT);
+        CALLS.workFails(4, 6, 0, 6, 0x80000000L, Calls.NO_RESULT);
+        CALLS.workFails(5, 6, Bits.of(3f), 4, 0, Calls.NO_RESULT);
+    }
+
+    private static void refusedBeforeItIsWorked() {
+        CALLS.sentence("failed() 1, not 8, where a refused call would have no result either");
+        refused(0, 4, 1, 4, 0);
+        refused(6, 4, 1, 4, 0);
+        refused(9, 7, 0, 7, 0);
+        for (int what = 4; what <= 5; what++) {
+            refused(what, 0, 1, 4, 0);
+            refused(what, 4, 1, 0, 0);
+            refused(what, 8, 1, 4, 0);
+            refused(what, 1, 128, 1, 0);
+            refused(what, 6, 0x7FC00000L, 6, 0);
+            refused(what, 7, 0, 7, 0x7FF8000000000000L);
         }
     }
 
     public static void main(String[] args) {
-        ordinary();
-        noResult();
-        everyEdge();
-        wrongCalls();
-        DUE.end();
+        fiveWhats();
+        bitsOfTheResult();
+        anotherWhat();
+        bitsThatAreNone();
+        kindsThatAreNoNumber();
+        eightAsSaid();
+        refusedBeforeItIsWorked();
+        CALLS.end();
     }
 }
