@@ -1,7 +1,7 @@
 import java.util.List;
 import java.util.function.Consumer;
 
-/** Promise 9. */
+/** Promise 9; long runs of calls stand in LifeTest. */
 public final class FailedTest {
     private static final Due DUE = new Due();
 
@@ -71,21 +71,10 @@ public final class FailedTest {
         after(WITHOUT_RESULT, QUESTIONS, 8);
     }
 
-    private static void aFullLife() {
-        DUE.sentence("An object is used for at most 512 calls");
-        KindNumbers numbers = new KindNumbers();
-        for (int call = 0; call < 256; call++) {
-            boolean goes = call % 3 != 0;
-            numbers.cast(goes ? 4 : 0, 7, call % 2);
-            DUE.is("failed() after cast " + call, numbers.failed(), goes ? 0 : 1);
-        }
-    }
-
     public static void main(String[] args) {
         whyItFailed();
         nothingFailed();
         otherCallsLeaveIt();
-        aFullLife();
         DUE.end();
     }
 }

@@ -92,18 +92,47 @@ public final class WorkTest {
         CALLS.workFails(5, 6, Bits.of(3f), 4, 0, Calls.NO_RESULT);
     }
 
+    /** What is said of 8 is said of two numbers; where there are not two, nothing is worked. */
     private static void refusedBeforeItIsWorked() {
-        CALLS.sentence("failed() 1, not 8, where a refused call would have no result either");
-        refused(0, 4, 1, 4, 0);
-        refused(6, 4, 1, 4, 0);
-        refused(9, 7, 0, 7, 0);
+        CALLS.sentence("0, and failed() 1, not 8, where a refused call would have no result either");
+        long infinite = Bits.of(Double.POSITIVE_INFINITY);
+        for (int what : new int[] {Integer.MIN_VALUE, -1, 0, 6, 8, 9, Integer.MAX_VALUE}) {
+            refused(what, 4, 1, 4, 0);
+            refused(what, 5, 0, 3, 0);
+            refused(what, 7, 0, 7, 0);
+            refused(what, 7, infinite, 7, infinite);
+            refused(what, 7, infinite, 7, infinite | Long.MIN_VALUE);
+            refused(what, 7, infinite, 7, 0);
+        }
         for (int what = 4; what <= 5; what++) {
             refused(what, 0, 1, 4, 0);
             refused(what, 4, 1, 0, 0);
+            refused(what, 0, 0, 0, 0);
             refused(what, 8, 1, 4, 0);
+            refused(what, 4, 1, -1, 0);
             refused(what, 1, 128, 1, 0);
-            refused(what, 6, 0x7FC00000L, 6, 0);
-            refused(what, 7, 0, 7, 0x7FF8000000000000L);
+            refused(what, 4, 1L << 32, 4, 0);
+            // The low 32 bits are those of a 0.
+            refused(what, 4, 1, 4, 1L << 32);
+            refused(what, 6, 0, 6, 1L << 32);
+        }
+    }
+
+    private static void notANumberIsRefused() {
+        CALLS.sentence("0, and failed() 1, not 8, of a not-a-number: its bits are none");
+        long floatNone = 0x7FC00000L;
+        long doubleNone = 0x7FF8000000000000L;
+        for (int what = 1; what <= 5; what++) {
+            for (long b : new long[] {0, 0x80000000L, 0x7F800000L, 0xFF800000L, floatNone}) {
+                refused(what, 6, floatNone, 6, b);
+                refused(what, 6, b, 6, floatNone);
+            }
+            for (long b : new long[] {0, Long.MIN_VALUE, 0x7FF0000000000000L, 0xFFF0000000000000L, doubleNone}) {
+                refused(what, 7, doubleNone, 7, b);
+                refused(what, 7, b, 7, doubleNone);
+            }
+            refused(what, 7, doubleNone, 4, 0);
+            refused(what, 4, 0, 6, floatNone);
         }
     }
 
@@ -115,6 +144,7 @@ public final class WorkTest {
         kindsThatAreNoNumber();
         eightAsSaid();
         refusedBeforeItIsWorked();
+        notANumberIsRefused();
         CALLS.end();
     }
 }
